@@ -201,12 +201,12 @@ public final class AlarmKinds {
 
     /** The latest rules that began, in a ring, and how often what was done ever. */
     private static final class Trace {
-        private final int[] ring;
-        private int next;
-        private int kept;
-        private int begun;
-        private int flats;
-        private int arithmetics;
+        final int[] ring;
+        int next;
+        int kept;
+        int begun;
+        int flats;
+        int arithmetics;
 
         Trace() {
             ring = new int[TRACE_KEPT];

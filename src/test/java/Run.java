@@ -20,7 +20,7 @@ final class Run {
         return this;
     }
 
-    /** Checks a call that is made ready beforehand, whose answer is not looked at. */
+    /** Makes a call whose answer another check looks at. */
     Run after(String call) {
         answer(panel, call);
         return this;

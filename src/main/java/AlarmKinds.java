@@ -145,7 +145,7 @@ public final class AlarmKinds {
     }
 
     public int trace(int i) {
-        return trace.isKept(i) ? trace.at(i) : UNKNOWN;
+        return trace.at(i);
     }
 
     public int count(int what) {
@@ -199,7 +199,7 @@ public final class AlarmKinds {
         return charge >= 0 && charge <= MOST_CHARGE;
     }
 
-    /** The latest rules that began, in a ring, and how often what was done ever. */
+    /** The latest rules that began, in a ring, and the counts of what was done ever. */
     private static final class Trace {
         final int[] ring;
         int next;
@@ -224,12 +224,10 @@ public final class AlarmKinds {
             begun++;
         }
 
-        boolean isKept(int i) {
-            return i >= 0 && i < kept;
-        }
-
-        /** Only for an i that is kept. */
         int at(int i) {
+            if (i < 0 || i >= kept) {
+                return UNKNOWN;
+            }
             int place = next - 1 - i;
             return ring[place < 0 ? place + ring.length : place];
         }

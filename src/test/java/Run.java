@@ -4,11 +4,15 @@ import java.util.Arrays;
 
 /** A run of calls on one new AlarmKinds; it prints every call whose answer is not the one that is due. */
 final class Run {
+    /** What a later call answers is free, so a test that makes one would prove nothing. */
+    private static final int MOST_CALLS = 512;
+
     private static int wrong = 0;
     private static int checked = 0;
 
     private final String name;
     private final AlarmKinds panel = new AlarmKinds();
+    private int calls = 0;
 
     Run(String name) {
         this.name = name;
@@ -16,14 +20,40 @@ final class Run {
 
     /** Checks a call, written as in "read(0, 100)"; due is a number or the name of an exception. */
     Run due(String call, Object due) {
-        same(name + ": " + call, answer(panel, call), due.toString());
+        same(name + ": " + call, call(call), due.toString());
         return this;
     }
 
     /** Makes a call whose answer another check looks at. */
     Run after(String call) {
-        answer(panel, call);
+        call(call);
         return this;
+    }
+
+    /** Makes the same call many times. */
+    Run after(int times, String call) {
+        for (int i = 0; i < times; i++) {
+            call(call);
+        }
+        return this;
+    }
+
+    /** All that can be asked of the panel without changing it. */
+    String everything() {
+        StringBuilder all = new StringBuilder();
+        for (int what = 0; what < 4; what++) {
+            all.append(" count ").append(what).append(" is ").append(call("count(" + what + ")"));
+        }
+        int detectors = Integer.parseInt(call("count(0)"));
+        for (int i = 0; i < 8 * detectors; i++) {
+            String call = "tell(" + i / 8 + ", " + i % 8 + ")";
+            all.append(' ').append(call).append(" is ").append(call(call));
+        }
+        int rules = Math.min(200, Integer.parseInt(call("count(1)")));
+        for (int i = 0; i <= rules; i++) {
+            all.append(" trace ").append(i).append(" is ").append(call("trace(" + i + ")"));
+        }
+        return all.toString();
     }
 
     /** Checks the latest rules of the trace, the oldest of them first. */
@@ -40,6 +70,14 @@ final class Run {
             due("tell(" + detector + ", " + what + ")", values[what]);
         }
         return this;
+    }
+
+    private String call(String call) {
+        calls++;
+        if (calls > MOST_CALLS) {
+            throw new IllegalStateException("the test makes more than " + MOST_CALLS + " calls: " + name);
+        }
+        return answer(panel, call);
     }
 
     static void same(String what, String got, String due) {
